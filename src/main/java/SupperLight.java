@@ -49,17 +49,29 @@ public final class SupperLight {
     private static final int BY_GOAL = 1;
     private static final int BY_KIND = 2;
 
-    private static final int TOKEN_END = 0;
-    private static final int TOKEN_WORD = 1;
-    private static final int TOKEN_NUMBER = 2;
-    private static final int TOKEN_SIGN = 3;
-    private static final int TOKEN_NOT = 4;
+    /** Words of the text by their codes; those of the kinds' names are the kinds. */
+    private static final int WORD_AT = 6;
+    private static final int WORD_GOES = 7;
+    private static final int WORD_MEAL = 8;
+    private static final int WORD_FASTS = 9;
+    private static final int WORD_BOWL = 10;
+    private static final int WORD_TASK = 11;
+    private static final int WORD_HOUR = 12;
+    private static final int WORD_NEED = 13;
+    private static final int WORD_EAT = 14;
+    private static final int WORDS = 15;
+    private static final int TOKEN_NUMBER = 15;
+    private static final int TOKEN_SIGN = 16;
+    private static final int TOKEN_END = 17;
+    /** Stands nowhere: another word, or a byte that begins no token. */
+    private static final int TOKEN_NOT = 18;
 
     private final World world;
     private final World kept;
     /** Where a change is tried out that must leave the world as it is. */
     private final World trial;
     private boolean keeps;
+    private final Glow glow;
     private final Tape tape;
     private final NightReader nightReader;
     private final Sheet[] sheets;
@@ -74,6 +86,7 @@ public final class SupperLight {
         kept = new World();
         trial = new World();
         keeps = false;
+        glow = new Glow();
         tape = new Tape();
         nightReader = new NightReader(tape, trial);
         sheets = new Sheet[SHEETS];
@@ -98,11 +111,11 @@ public final class SupperLight {
     }
 
     public int light(int place) {
-        return isPlace(place) ? world.lightOn(place, 0) : found(BEYOND);
+        return isPlace(place) ? lightOn(place, 0) : found(BEYOND);
     }
 
     public int brightest() {
-        world.lightAll(lights);
+        lightAll();
         int best = 0;
         for (int place = 1; place < PLACES; place++) {
             if (lights[place] > lights[best]) {
@@ -116,7 +129,7 @@ public final class SupperLight {
         if (!within(v, 0, LIGHT_MOST)) {
             return found(BEYOND);
         }
-        world.lightAll(lights);
+        lightAll();
         int set = 0;
         for (int place = 0; place < PLACES; place++) {
             if (lights[place] >= v) {
@@ -148,7 +161,7 @@ public final class SupperLight {
             case 2: return world.goals[being];
             case 3: return world.meals[being];
             case 4: return world.fasts[being];
-            case 5: return world.shinesOn(being, 0);
+            case 5: return shinesNow(being);
             case 6: return stepsBetween(world.ats[being], world.goals[being]);
             default: return found(BEYOND);
         }
@@ -188,23 +201,25 @@ public final class SupperLight {
             return found(BEYOND);
         }
         world.feedBeing(being, v);
-        return world.shinesOn(being, 0);
+        return shinesNow(being);
     }
 
     public int gives(int being, int place) {
         if (!world.hasBeing(being) || !isPlace(place)) {
             return found(BEYOND);
         }
-        return world.givesOn(being, place, 0);
+        glow.settleOn(world, 0);
+        return glow.givesTo(being, place);
     }
 
     public int seen(int place) {
         if (!isPlace(place)) {
             return found(BEYOND);
         }
+        glow.settleOn(world, 0);
         int set = 0;
         for (int b = 0; b < world.beings; b++) {
-            if (world.givesOn(b, place, 0) > 0) {
+            if (glow.givesTo(b, place) > 0) {
                 set |= 1 << b;
             }
         }
@@ -231,8 +246,8 @@ public final class SupperLight {
             case 0: return world.taskPlaces[task];
             case 1: return world.taskHours[task];
             case 2: return world.taskNeeds[task];
-            case 3: return world.isDarkOn(task, 0) ? 1 : 0;
-            case 4: return world.isDone(task) ? 1 : 0;
+            case 3: return lightOn(world.taskPlaces[task], 0) < world.taskNeeds[task] ? 1 : 0;
+            case 4: return isDone(world, task) ? 1 : 0;
             default: return found(BEYOND);
         }
     }
@@ -251,11 +266,11 @@ public final class SupperLight {
     public int now(int what) {
         switch (what) {
             case 0: return world.hour;
-            case 1: return world.allShine();
-            case 2: return world.allBowls();
+            case 1: return allShine();
+            case 2: return sumOf(world.bowls, PLACES);
             case 3: return allLight();
             case 4: return world.arrivedSet();
-            case 5: return world.doneSet();
+            case 5: return doneSet(world);
             default: return found(BEYOND);
         }
     }
@@ -266,13 +281,13 @@ public final class SupperLight {
         if (!isPlace(place) || !within(n, 0, ON_MOST)) {
             return found(BEYOND);
         }
-        return world.lightOn(place, n);
+        return lightOn(place, n);
     }
 
     public int dark() {
         int first = -1;
         for (int t = 0; t < world.tasks; t++) {
-            boolean fails = world.comes(t) && !world.isDone(t);
+            boolean fails = world.comes(t) && !isDone(world, t);
             if (fails && (first < 0 || world.taskHours[t] < world.taskHours[first])) {
                 first = t;
             }
@@ -282,7 +297,8 @@ public final class SupperLight {
 
     public int out() {
         for (int n = 0; n <= ON_MOST; n++) {
-            if (world.isOutOn(n)) {
+            glow.settleOn(world, n);
+            if (glow.isOut()) {
                 return n;
             }
         }
@@ -307,7 +323,7 @@ public final class SupperLight {
         if (!isPlace(from) || !isPlace(to)) {
             return found(BEYOND);
         }
-        world.lightAll(lights);
+        lightAll();
         return ways.leastGlare(lights, from, to);
     }
 
@@ -315,7 +331,7 @@ public final class SupperLight {
         if (!isPlace(from) || !isPlace(to) || !within(v, 0, LIGHT_MOST)) {
             return found(BEYOND);
         }
-        world.lightAll(lights);
+        lightAll();
         ways.spreadFrom(lights, to, v);
         return ways.steps[from] < 0 ? found(NONE) : ways.steps[from];
     }
@@ -324,7 +340,7 @@ public final class SupperLight {
         if (!isPlace(from) || !isPlace(to) || !within(v, 0, LIGHT_MOST)) {
             return found(BEYOND);
         }
-        world.lightAll(lights);
+        lightAll();
         ways.spreadFrom(lights, to, v);
         int next = ways.nextFrom(from);
         return next < 0 ? found(NONE) : next;
@@ -343,7 +359,7 @@ public final class SupperLight {
         trial.becomeAs(world);
         for (int v = 0; v <= MEAL_MOST; v++) {
             trial.feedBeing(being, v);
-            if (trial.isDone(task)) {
+            if (isDone(trial, task)) {
                 return v;
             }
         }
@@ -352,10 +368,10 @@ public final class SupperLight {
 
     public int needed() {
         int best = -1;
-        int least = world.doneCount();
+        int least = Integer.bitCount(doneSet(world));
         for (int b = 0; b < world.beings; b++) {
             tryWithout(b);
-            int done = trial.doneCount();
+            int done = Integer.bitCount(doneSet(trial));
             if (done < least) {
                 least = done;
                 best = b;
@@ -369,10 +385,10 @@ public final class SupperLight {
             return found(BEYOND);
         }
         int set = 0;
-        if (world.isDone(task)) {
+        if (isDone(world, task)) {
             for (int b = 0; b < world.beings; b++) {
                 tryWithout(b);
-                if (!trial.isDone(task)) {
+                if (!isDone(trial, task)) {
                     set |= 1 << b;
                 }
             }
@@ -393,11 +409,10 @@ public final class SupperLight {
             return found(BEYOND);
         }
         trial.becomeAs(world);
-        // FASTS of one being changes nothing of what the others give.
-        int others = world.lightOn(place, 0) - world.givesOn(being, place, 0);
         for (int f = 0; f <= FASTED_MOST; f++) {
             trial.fasts[being] = f;
-            if (others + trial.givesOn(being, place, 0) == v) {
+            glow.settleOn(trial, 0);
+            if (glow.lightOf(place) == v) {
                 return f;
             }
         }
@@ -431,7 +446,7 @@ public final class SupperLight {
             world.becomeAs(trial);
             return items;
         }
-        return -1 - nightReader.start;
+        return -1 - nightReader.faultPlace();
     }
 
     // ---- sheets
@@ -511,7 +526,7 @@ public final class SupperLight {
         if (drawn.isMissing()) {
             return found(MISSING);
         }
-        world.lightAll(lights);
+        lightAll();
         for (int place = 0; place < drawn.places(); place++) {
             drawn.put(place, lights[place]);
         }
@@ -525,7 +540,8 @@ public final class SupperLight {
         if (sheets[s].isMissing()) {
             return found(MISSING);
         }
-        return lightReader.countSets(world, sheets[s]);
+        glow.settleOn(world, 0);
+        return lightReader.countSets(glow, sheets[s]);
     }
 
     // ---- images
@@ -545,9 +561,9 @@ public final class SupperLight {
     }
 
     public int tear() {
-        int kepts = keeps ? 1 : 0;
+        int were = keeps ? 1 : 0;
         keeps = false;
-        return kepts;
+        return were;
     }
 
     public int count(int what) {
@@ -555,7 +571,7 @@ public final class SupperLight {
             case 0: return world.beings;
             case 1: return world.tasks;
             case 2: return tape.size;
-            case 3: return world.allMeals();
+            case 3: return sumOf(world.meals, world.beings);
             default: return found(BEYOND);
         }
     }
@@ -567,11 +583,7 @@ public final class SupperLight {
         if (which >= 0) {
             return findings[which];
         }
-        int all = 0;
-        for (int i = 0; i < FINDINGS; i++) {
-            all += findings[i];
-        }
-        return all;
+        return sumOf(findings, FINDINGS);
     }
 
     // ---- what the calls share
@@ -601,13 +613,49 @@ public final class SupperLight {
         }
     }
 
-    private int allLight() {
-        world.lightAll(lights);
-        int all = 0;
+    private int lightOn(int place, int n) {
+        glow.settleOn(world, n);
+        return glow.lightOf(place);
+    }
+
+    private void lightAll() {
+        glow.settleOn(world, 0);
         for (int place = 0; place < PLACES; place++) {
-            all += lights[place];
+            lights[place] = glow.lightOf(place);
         }
-        return all;
+    }
+
+    private int allLight() {
+        lightAll();
+        return sumOf(lights, PLACES);
+    }
+
+    private int shinesNow(int being) {
+        glow.settleOn(world, 0);
+        return glow.shines[being];
+    }
+
+    private int allShine() {
+        glow.settleOn(world, 0);
+        return sumOf(glow.shines, world.beings);
+    }
+
+    private boolean isDone(World in, int task) {
+        if (!in.comes(task)) {
+            return false;
+        }
+        glow.settleOn(in, in.taskHours[task] - in.hour);
+        return glow.lightOf(in.taskPlaces[task]) >= in.taskNeeds[task];
+    }
+
+    private int doneSet(World in) {
+        int set = 0;
+        for (int t = 0; t < in.tasks; t++) {
+            if (isDone(in, t)) {
+                set |= 1 << t;
+            }
+        }
+        return set;
     }
 
     private void tryWithout(int being) {
@@ -621,7 +669,7 @@ public final class SupperLight {
         int most = -1;
         for (int choice = 0; choice < choices; choice++) {
             tryChoice(by, subject, choice);
-            int done = trial.doneCount();
+            int done = Integer.bitCount(doneSet(trial));
             if (done > most) {
                 most = done;
                 best = choice;
@@ -661,6 +709,14 @@ public final class SupperLight {
         return within(s, 0, SHEETS - 1);
     }
 
+    private static int sumOf(int[] row, int n) {
+        int sum = 0;
+        for (int i = 0; i < n && i < row.length; i++) {
+            sum += row[i];
+        }
+        return sum;
+    }
+
     private static int stepsBetween(int one, int other) {
         return Math.abs(one / SIDE - other / SIDE) + Math.abs(one % SIDE - other % SIDE);
     }
@@ -668,7 +724,7 @@ public final class SupperLight {
     /** Whether a kind is the upper one or under it. */
     private static boolean isUnder(int kind, int upper) {
         int k = kind;
-        for (int level = 0; level < KINDS && isKind(k); level++) {
+        for (int level = 0; level < KINDS && k >= 0 && k < KINDS; level++) {
             if (k == upper) {
                 return true;
             }
@@ -682,7 +738,7 @@ public final class SupperLight {
         return from < to ? Math.min(from + steps, to) : Math.max(from - steps, to);
     }
 
-    /** All that an image keeps; what is asked ON n hours is worked out from n alone, without going them. */
+    /** All that an image keeps; what there is ON n hours is worked out from n alone, without going them. */
     private static final class World {
         int hour = 0;
         final int[] bowls = new int[PLACES];
@@ -779,97 +835,8 @@ public final class SupperLight {
             return row * SIDE + column;
         }
 
-        int shinesOn(int being, int n) {
-            int fasting = fastsOn(being, n);
-            int plain = Math.max(0, meals[being] - fasting);
-            switch (kinds[being]) {
-                case PERSON: return plain;
-                case SINGER: return sungOn(being, n, plain);
-                case THIEF: return fasting >= THIEF_DARK ? 0 : plain;
-                case HERD: return 3 * plain;
-                case CHOIR: return 2 * sungOn(being, n, plain);
-                case FASTER: return 0;
-                default: return 0;
-            }
-        }
-
-        private int sungOn(int being, int n, int plain) {
-            return singsWithOn(being, n) ? plain + plain / 2 : plain;
-        }
-
-        private boolean singsWithOn(int being, int n) {
-            int stands = standsOn(being, n);
-            for (int b = 0; b < beings; b++) {
-                if (b != being && isUnder(kinds[b], SINGER) && standsOn(b, n) == stands) {
-                    return true;
-                }
-            }
-            return false;
-        }
-
-        /** A shift halves once for each step, cut each time. */
-        int givesOn(int being, int place, int n) {
-            return shinesOn(being, n) >> stepsBetween(standsOn(being, n), place);
-        }
-
-        int lightOn(int place, int n) {
-            int light = bowlOn(place, n);
-            for (int b = 0; b < beings; b++) {
-                light += givesOn(b, place, n);
-            }
-            return light;
-        }
-
-        void lightAll(int[] lights) {
-            for (int place = 0; place < PLACES && place < lights.length; place++) {
-                lights[place] = bowls[place];
-            }
-            for (int b = 0; b < beings; b++) {
-                int shines = shinesOn(b, 0);
-                for (int place = 0; place < PLACES && place < lights.length; place++) {
-                    lights[place] += shines >> stepsBetween(ats[b], place);
-                }
-            }
-        }
-
-        boolean isOutOn(int n) {
-            for (int place = 0; place < PLACES; place++) {
-                if (bowlOn(place, n) > 0) {
-                    return false;
-                }
-            }
-            for (int b = 0; b < beings; b++) {
-                if (shinesOn(b, n) > 0) {
-                    return false;
-                }
-            }
-            return true;
-        }
-
         boolean comes(int task) {
             return within(taskHours[task] - hour, 0, ON_MOST);
-        }
-
-        boolean isDarkOn(int task, int n) {
-            return lightOn(taskPlaces[task], n) < taskNeeds[task];
-        }
-
-        boolean isDone(int task) {
-            return comes(task) && !isDarkOn(task, taskHours[task] - hour);
-        }
-
-        int doneSet() {
-            int set = 0;
-            for (int t = 0; t < tasks; t++) {
-                if (isDone(t)) {
-                    set |= 1 << t;
-                }
-            }
-            return set;
-        }
-
-        int doneCount() {
-            return Integer.bitCount(doneSet());
         }
 
         int arrivedSet() {
@@ -881,29 +848,64 @@ public final class SupperLight {
             }
             return set;
         }
+    }
 
-        int allShine() {
-            int all = 0;
-            for (int b = 0; b < beings; b++) {
-                all += shinesOn(b, 0);
-            }
-            return all;
-        }
+    /** Where all stand, how they shine and what bowls hold in a world ON n hours. */
+    private static final class Glow {
+        int beings = 0;
+        final int[] bowls = new int[PLACES];
+        private final int[] stands = new int[BEINGS_MOST];
+        final int[] shines = new int[BEINGS_MOST];
+        /** How many sing at each place. */
+        private final int[] voices = new int[PLACES];
 
-        int allBowls() {
-            int all = 0;
+        void settleOn(World world, int n) {
+            beings = world.beings;
             for (int place = 0; place < PLACES; place++) {
-                all += bowls[place];
+                bowls[place] = world.bowlOn(place, n);
+                voices[place] = 0;
             }
-            return all;
+            for (int b = 0; b < beings; b++) {
+                stands[b] = world.standsOn(b, n);
+                if (isUnder(world.kinds[b], SINGER)) {
+                    voices[stands[b]]++;
+                }
+            }
+            for (int b = 0; b < beings; b++) {
+                shines[b] = shineOf(world.kinds[b], world.meals[b], world.fastsOn(b, n), voices[stands[b]]);
+            }
         }
 
-        int allMeals() {
-            int all = 0;
-            for (int b = 0; b < beings; b++) {
-                all += meals[b];
+        /** A singer's own voice is among those at its place. */
+        private static int shineOf(int kind, int meal, int fasts, int voices) {
+            int plain = Math.max(0, meal - fasts);
+            int sung = voices > 1 ? plain + plain / 2 : plain;
+            switch (kind) {
+                case PERSON: return plain;
+                case SINGER: return sung;
+                case THIEF: return fasts >= THIEF_DARK ? 0 : plain;
+                case HERD: return 3 * plain;
+                case CHOIR: return 2 * sung;
+                case FASTER: return 0;
+                default: return 0;
             }
-            return all;
+        }
+
+        /** A shift halves once for each step, cut each time. */
+        int givesTo(int being, int place) {
+            return shines[being] >> stepsBetween(stands[being], place);
+        }
+
+        int lightOf(int place) {
+            int light = bowls[place];
+            for (int b = 0; b < beings; b++) {
+                light += givesTo(b, place);
+            }
+            return light;
+        }
+
+        boolean isOut() {
+            return sumOf(bowls, PLACES) == 0 && sumOf(shines, beings) == 0;
         }
     }
 
@@ -977,71 +979,179 @@ public final class SupperLight {
         }
     }
 
-    /** Reads the text of a night; no token is passed that can't stand, so a fault is where the token starts. */
+    /** The tokens of a tape, each by its code, its value (of a number) and where it starts. */
+    private static final class Tokens {
+        final int[] codes = new int[TAPE_MOST + 1];
+        final int[] values = new int[TAPE_MOST + 1];
+        final int[] starts = new int[TAPE_MOST + 1];
+        private int tokens = 0;
+
+        /** Behind the last token stands one that ends all, where the bytes end. */
+        void cutOut(Tape tape) {
+            tokens = 0;
+            int place = 0;
+            while (place < tape.size) {
+                int end = place + 1;
+                if (tape.bytes[place] != ' ') {
+                    end = tokenEnd(tape, place);
+                    add(codeOf(tape, place, end), numberOf(tape, place, end), place);
+                }
+                place = end;
+            }
+            add(TOKEN_END, 0, tape.size);
+        }
+
+        private void add(int code, int value, int start) {
+            if (tokens <= TAPE_MOST) {
+                codes[tokens] = code;
+                values[tokens] = value;
+                starts[tokens] = start;
+                tokens++;
+            }
+        }
+
+        private static int tokenEnd(Tape tape, int start) {
+            int end = start + 1;
+            if (isLetter(tape.bytes[start])) {
+                while (end < tape.size && isLetter(tape.bytes[end])) {
+                    end++;
+                }
+            } else if (isDigit(tape.bytes[start])) {
+                while (end < tape.size && isDigit(tape.bytes[end])) {
+                    end++;
+                }
+            }
+            return end;
+        }
+
+        private static int codeOf(Tape tape, int start, int end) {
+            if (isDigit(tape.bytes[start])) {
+                return TOKEN_NUMBER;
+            }
+            if (tape.bytes[start] == ';') {
+                return TOKEN_SIGN;
+            }
+            for (int code = 0; code < WORDS; code++) {
+                if (isWordAt(tape, start, end, wordOf(code))) {
+                    return code;
+                }
+            }
+            return TOKEN_NOT;
+        }
+
+        /** A value above what numbers may be stays just above it, however many digits follow. */
+        private static int numberOf(Tape tape, int start, int end) {
+            int value = 0;
+            for (int i = start; i < end && isDigit(tape.bytes[i]); i++) {
+                value = Math.min(NUMBER_MOST + 1, value * 10 + (tape.bytes[i] - '0'));
+            }
+            return value;
+        }
+
+        private static boolean isWordAt(Tape tape, int start, int end, String word) {
+            if (end - start != word.length()) {
+                return false;
+            }
+            for (int i = 0; i < word.length(); i++) {
+                if (tape.bytes[start + i] != word.charAt(i)) {
+                    return false;
+                }
+            }
+            return true;
+        }
+
+        private static boolean isLetter(byte sign) {
+            return sign >= 'a' && sign <= 'z';
+        }
+
+        private static boolean isDigit(byte sign) {
+            return sign >= '0' && sign <= '9';
+        }
+
+        private static String wordOf(int code) {
+            switch (code) {
+                case PERSON: return "person";
+                case SINGER: return "singer";
+                case THIEF: return "thief";
+                case HERD: return "herd";
+                case CHOIR: return "choir";
+                case FASTER: return "faster";
+                case WORD_AT: return "at";
+                case WORD_GOES: return "goes";
+                case WORD_MEAL: return "meal";
+                case WORD_FASTS: return "fasts";
+                case WORD_BOWL: return "bowl";
+                case WORD_TASK: return "task";
+                case WORD_HOUR: return "hour";
+                case WORD_NEED: return "need";
+                default: return "eat";
+            }
+        }
+    }
+
+    /** Reads the text of a night; no token is passed that can't stand, so a fault is where the next one starts. */
     private static final class NightReader {
         private final Tape tape;
         private final World draft;
-        private int token = TOKEN_END;
-        private int value = 0;
-        int start = 0;
-        private int end = 0;
+        private final Tokens text = new Tokens();
+        private int next = 0;
 
         NightReader(Tape tape, World draft) {
             this.tape = tape;
             this.draft = draft;
         }
 
-        /** How many items came to the draft; 0 with a fault, which is at start. */
+        /** How many items came to the draft; 0 with a fault. */
         int readAll() {
-            end = 0;
-            nextToken();
+            text.cutOut(tape);
+            next = 0;
             for (int items = 1; items <= TAPE_MOST; items++) {
                 if (!takeItem()) {
                     return 0;
                 }
-                if (token == TOKEN_END) {
+                if (text.codes[next] == TOKEN_END) {
                     return items;
                 }
-                if (token != TOKEN_SIGN) {
+                if (!take(TOKEN_SIGN)) {
                     return 0;
                 }
-                nextToken();
             }
             return 0;
         }
 
+        int faultPlace() {
+            return text.starts[next];
+        }
+
         private boolean takeItem() {
-            int kind = kindNamed();
-            if (kind != NOBODY) {
-                return takeBeing(kind);
+            int code = text.codes[next];
+            if (isKind(code)) {
+                return takeBeing(code);
             }
-            if (isWord("bowl")) {
-                return takeBowl();
+            switch (code) {
+                case WORD_BOWL: return takeBowl();
+                case WORD_TASK: return takeTask();
+                case WORD_EAT: return takeEating();
+                default: return false;
             }
-            if (isWord("task")) {
-                return takeTask();
-            }
-            return isWord("eat") && takeEating();
         }
 
         private boolean takeBeing(int kind) {
-            if (draft.beings >= BEINGS_MOST) {
+            if (draft.beings >= BEINGS_MOST || !take(kind)) {
                 return false;
             }
-            nextToken();
-            int place = takeNumberBehind("at", 0, PLACES - 1);
+            int place = takeNumberBehind(WORD_AT, 0, PLACES - 1);
             if (place < 0) {
                 return false;
             }
             int being = draft.addBeing(kind, place);
-            return takePart("goes", draft.goals, being, PLACES - 1)
-                && takePart("meal", draft.meals, being, MEAL_MOST)
-                && takePart("fasts", draft.fasts, being, FASTS_MOST);
+            return takePart(WORD_GOES, draft.goals, being, PLACES - 1)
+                && takePart(WORD_MEAL, draft.meals, being, MEAL_MOST)
+                && takePart(WORD_FASTS, draft.fasts, being, FASTS_MOST);
         }
 
         private boolean takeBowl() {
-            nextToken();
-            int place = takeNumber(0, PLACES - 1);
+            int place = takeNumberBehind(WORD_BOWL, 0, PLACES - 1);
             if (place < 0) {
                 return false;
             }
@@ -1054,19 +1164,18 @@ public final class SupperLight {
         }
 
         private boolean takeTask() {
-            if (draft.tasks >= TASKS_MOST) {
+            if (draft.tasks >= TASKS_MOST || !take(WORD_TASK)) {
                 return false;
             }
-            nextToken();
-            int place = takeNumberBehind("at", 0, PLACES - 1);
+            int place = takeNumberBehind(WORD_AT, 0, PLACES - 1);
             if (place < 0) {
                 return false;
             }
-            int at = takeNumberBehind("hour", 0, TASK_HOUR_MOST);
+            int at = takeNumberBehind(WORD_HOUR, 0, TASK_HOUR_MOST);
             if (at < 0) {
                 return false;
             }
-            int need = takeNumberBehind("need", 1, NEED_MOST);
+            int need = takeNumberBehind(WORD_NEED, 1, NEED_MOST);
             if (need < 0) {
                 return false;
             }
@@ -1075,8 +1184,7 @@ public final class SupperLight {
         }
 
         private boolean takeEating() {
-            nextToken();
-            int being = takeNumber(0, draft.beings - 1);
+            int being = takeNumberBehind(WORD_EAT, 0, draft.beings - 1);
             if (being < 0) {
                 return false;
             }
@@ -1089,8 +1197,8 @@ public final class SupperLight {
         }
 
         /** False only if the word stands there and its number can't. */
-        private boolean takePart(String word, int[] row, int being, int most) {
-            if (!isWord(word)) {
+        private boolean takePart(int word, int[] row, int being, int most) {
+            if (text.codes[next] != word) {
                 return true;
             }
             int v = takeNumberBehind(word, 0, most);
@@ -1101,97 +1209,24 @@ public final class SupperLight {
             return true;
         }
 
-        private int takeNumberBehind(String word, int least, int most) {
-            if (!isWord(word)) {
-                return -1;
-            }
-            nextToken();
-            return takeNumber(least, most);
+        /** The number behind a word, or -1 if one of them can't stand there. */
+        private int takeNumberBehind(int word, int least, int most) {
+            return take(word) ? takeNumber(least, most) : -1;
         }
 
-        /** The number that stands there, or -1 if none does that may. */
         private int takeNumber(int least, int most) {
-            if (token != TOKEN_NUMBER || !within(value, least, most)) {
+            int value = text.values[next];
+            if (!within(value, least, most) || !take(TOKEN_NUMBER)) {
                 return -1;
             }
-            int taken = value;
-            nextToken();
-            return taken;
+            return value;
         }
 
-        private int kindNamed() {
-            for (int kind = 0; kind < KINDS; kind++) {
-                if (isWord(kindName(kind))) {
-                    return kind;
-                }
-            }
-            return NOBODY;
-        }
-
-        private static String kindName(int kind) {
-            switch (kind) {
-                case PERSON: return "person";
-                case SINGER: return "singer";
-                case THIEF: return "thief";
-                case HERD: return "herd";
-                case CHOIR: return "choir";
-                default: return "faster";
-            }
-        }
-
-        private boolean isWord(String word) {
-            if (token != TOKEN_WORD || end - start != word.length()) {
-                return false;
-            }
-            for (int i = 0; i < word.length(); i++) {
-                if (tape.bytes[start + i] != word.charAt(i)) {
-                    return false;
-                }
-            }
-            return true;
-        }
-
-        private void nextToken() {
-            start = end;
-            while (start < tape.size && tape.bytes[start] == ' ') {
-                start++;
-            }
-            end = start;
-            if (start >= tape.size) {
-                token = TOKEN_END;
-            } else if (isLetterAt(start)) {
-                token = TOKEN_WORD;
-                passWord();
-            } else if (isDigitAt(start)) {
-                token = TOKEN_NUMBER;
-                passNumber();
-            } else {
-                token = tape.bytes[start] == ';' ? TOKEN_SIGN : TOKEN_NOT;
-                end = start + 1;
-            }
-        }
-
-        private void passWord() {
-            while (end < tape.size && isLetterAt(end)) {
-                end++;
-            }
-        }
-
-        /** A value above what numbers may be stays just above it, however many digits follow. */
-        private void passNumber() {
-            value = 0;
-            while (end < tape.size && isDigitAt(end)) {
-                value = Math.min(NUMBER_MOST + 1, value * 10 + (tape.bytes[end] - '0'));
-                end++;
-            }
-        }
-
-        private boolean isLetterAt(int i) {
-            return tape.bytes[i] >= 'a' && tape.bytes[i] <= 'z';
-        }
-
-        private boolean isDigitAt(int i) {
-            return tape.bytes[i] >= '0' && tape.bytes[i] <= '9';
+        /** The token that ends all is never taken, so there is always a next one. */
+        private boolean take(int code) {
+            boolean stands = text.codes[next] == code && code != TOKEN_END && next < TAPE_MOST;
+            next += stands ? 1 : 0;
+            return stands;
         }
     }
 
@@ -1242,19 +1277,19 @@ public final class SupperLight {
         private final int[] given = new int[BEINGS_MOST * PLACES];
 
         /** Each set comes from the one before by one being more or less (Gray's order), so sums need no new start. */
-        int countSets(World world, Sheet told) {
+        int countSets(Glow glow, Sheet told) {
             int places = told.places();
             for (int place = 0; place < places; place++) {
-                lacks[place] = told.numbers[place] - world.bowls[place];
+                lacks[place] = told.numbers[place] - glow.bowls[place];
             }
-            for (int b = 0; b < world.beings; b++) {
+            for (int b = 0; b < glow.beings; b++) {
                 for (int place = 0; place < places; place++) {
-                    given[b * PLACES + place] = world.givesOn(b, place, 0);
+                    given[b * PLACES + place] = glow.givesTo(b, place);
                 }
             }
             int sets = isJust(places) ? 1 : 0;
             int chosen = 0;
-            for (int step = 1; step < 1 << world.beings; step++) {
+            for (int step = 1; step < 1 << glow.beings; step++) {
                 int being = lowestBit(step);
                 chosen ^= 1 << being;
                 change(being, (chosen >> being & 1) == 1 ? -1 : 1, places);
