@@ -94,6 +94,9 @@ public final class PromiseTest {
     private static void brightestAndLit() {
         SupperLight x = new SupperLight();
         due.is("4 none", x.brightest(), 0);
+        x.bowl(1, 3);
+        due.is("4 the second", x.brightest(), 1);
+        x.bowl(1, 0);
         x.bowl(9, 4);
         x.bowl(6, 4);
         due.is("4 least of several", x.brightest(), 6);
@@ -254,6 +257,9 @@ public final class PromiseTest {
         due.is("13 seen(0)", x.seen(0), 1);
         due.is("13 seen(1)", x.seen(1), 3);
         due.is("13 seen(15)", x.seen(15), 2);
+        x.set(0, 4, 19);
+        due.is("13 seen just now", x.seen(0), 1);
+        due.is("13 no longer next to it", x.seen(4), 2);
         due.is("13 seen(16)", x.seen(16), Due.BEYOND);
         due.is("13 seen(-1)", x.seen(-1), Due.BEYOND);
     }
@@ -281,6 +287,11 @@ public final class PromiseTest {
         due.is("15 taskOf(0, -1)", x.taskOf(0, -1), Due.BEYOND);
         due.is("15 taskOf(3, 0)", x.taskOf(3, 0), Due.BEYOND);
         due.is("15 taskOf(-1, 0)", x.taskOf(-1, 0), Due.BEYOND);
+        x.bowl(7, 9);
+        due.is("15 just as light as it must be", x.taskOf(0, 3), 0);
+        x.bowl(7, 8);
+        due.is("15 just too dark", x.taskOf(0, 3), 1);
+        x.bowl(7, 12);
         x.hours(4);
         due.is("15 gone by", x.taskOf(0, 4), 0);
         due.is("15 dark now", x.taskOf(1, 3), 1);
@@ -391,6 +402,11 @@ public final class PromiseTest {
     private static void dark() {
         SupperLight x = new SupperLight();
         due.is("19 no task", x.dark(), Due.NONE);
+        SupperLight y = new SupperLight();
+        for (int t = 0; t < 8; t++) {
+            y.task(t, t, 1);
+        }
+        due.is("19 eight tasks, the first", y.dark(), 0);
         x.bowl(0, 50);
         x.task(0, 20, 31);
         x.task(0, 10, 40);
@@ -482,6 +498,10 @@ public final class PromiseTest {
         due.is("24 only the shortest", x.first(5, 7, 0), 6);
         due.is("24 the least of several", x.first(15, 0, 9999), 11);
         due.is("24 here", x.first(5, 5, 9999), Due.NONE);
+        due.is("24 place 0", x.first(1, 0, 30), 0);
+        due.is("24 through place 0", x.first(1, 4, 30), 0);
+        due.is("23 v 0", x.way(2, 12, 0), 5);
+        due.is("23 v 0", x.way(2, 13, 0), 4);
         due.is("24 next to it", x.first(14, 15, 0), 15);
         due.is("24 start too bright", x.first(8, 9, 39), Due.NONE);
         int[][] wrong = {{16, 0, 0}, {-1, 0, 0}, {0, 16, 0}, {0, -1, 0}, {0, 0, -1}, {0, 0, 10000}};
@@ -489,6 +509,14 @@ public final class PromiseTest {
             due.is("23 wrong", x.way(w[0], w[1], w[2]), Due.BEYOND);
             due.is("24 wrong", x.first(w[0], w[1], w[2]), Due.BEYOND);
         }
+        SupperLight y = new SupperLight();
+        y.bowl(1, 50);
+        y.bowl(5, 40);
+        y.bowl(4, 60);
+        due.is("22 place 0 is the brightest on no way but its own", y.stealth(0, 2), 50);
+        y.bowl(0, 70);
+        due.is("22 place 0 is the brightest", y.stealth(0, 2), 70);
+        due.is("22 place 0 is the brightest", y.stealth(2, 0), 70);
         due.is("23 v 9999", x.way(0, 15, 9999), 6);
     }
 
@@ -558,9 +586,19 @@ public final class PromiseTest {
         x.bowl(0, 60);
         due.is("27 none is", x.needed(), Due.NONE);
         due.is("28 none is", x.whom(1), 0);
-        due.is("28 whom(4)", x.whom(4), Due.BEYOND);
+        for (int b = 3; b < 10; b++) {
+            x.being(0, 10);
+            x.eat(b, 13);
+        }
+        due.is("27 ten beings", x.needed(), Due.NONE);
+        x.task(10, 0, 99);
+        due.is("28 ten beings", x.whom(4), 1023 - 1);
+        due.is("28 whom(5)", x.whom(5), Due.BEYOND);
+        due.is("27 ten beings", x.needed(), 1);
+        due.is("13 ten beings", x.seen(10), 1023);
+        due.is("28 whom(8)", x.whom(8), Due.BEYOND);
         due.is("28 whom(-1)", x.whom(-1), Due.BEYOND);
-        due.is("28 nothing changes", x.count(0), 3);
+        due.is("28 nothing changes", x.count(0), 10);
     }
 
     /** Without a singer another one has none to sing with, which counts, though the first gives nothing itself. */
@@ -670,6 +708,12 @@ public final class PromiseTest {
 
     private static void night() {
         SupperLight x = new SupperLight();
+        SupperLight y = new SupperLight();
+        due.is("34 the first one goes", Due.night(y, "person at 0 goes 15"), 1);
+        due.is("34 the first one goes", y.of(0, 2), 15);
+        due.is("34 a bowl of 0", Due.night(y, "bowl 0 0;task at 0 hour 0 need 1;eat 0 0"), 3);
+        due.is("34 hour 0", y.taskOf(0, 1), 0);
+        due.is("34 need 1", y.taskOf(0, 2), 1);
         due.is("34 a person", Due.night(x, "person at 3"), 1);
         due.is("34 its GOAL", x.of(0, 2), 3);
         due.is("34 its MEAL", x.of(0, 3), 20);
@@ -730,6 +774,13 @@ public final class PromiseTest {
             due.is("34 fault of '" + texts[i] + "'", Due.night(x, texts[i]), -1 - faults[i]);
             due.is("34 the tape is empty", x.count(2), 0);
         }
+        due.is("34 tokens of one byte each", Due.night(x, "bowl 1 1" + ";".repeat(112)), -10);
+        due.is("34 tokens of one byte each", Due.night(x, ";".repeat(120)), -1);
+        due.is("34 120 bytes", Due.night(x, "eat 0 20;".repeat(13) + "   "), -121);
+        due.is("34 120 bytes", Due.night(x, "eat 0 20;".repeat(12) + "  eat 0   20"), 13);
+        due.is("34 another first letter", Due.night(x, "gowl 1 1"), -1);
+        due.is("34 another last letter", Due.night(x, "bowz 1 1"), -1);
+        due.is("34 a z behind it", Due.night(x, "bowlz 1 1"), -1);
         due.is("34 a high byte", Due.night(x, "bowl" + (char) 225 + " 1 1"), -5);
         due.is("34 a zero byte", Due.night(x, "bowl 1 1" + (char) 0), -9);
         due.is("34 nothing changes", x.count(0), 1);
