@@ -989,14 +989,12 @@ public final class SupperLight {
         /** Behind the last token stands one that ends all, where the bytes end. */
         void cutOut(Tape tape) {
             tokens = 0;
-            int place = 0;
-            while (place < tape.size) {
-                int end = place + 1;
-                if (tape.bytes[place] != ' ') {
+            int end = 0;
+            for (int place = 0; place < tape.size; place++) {
+                if (place >= end && tape.bytes[place] != ' ') {
                     end = tokenEnd(tape, place);
                     add(codeOf(tape, place, end), numberOf(tape, place, end), place);
                 }
-                place = end;
             }
             add(TOKEN_END, 0, tape.size);
         }
