@@ -706,7 +706,7 @@ final class Model {
         return v << 64 - bits[s] >> 64 - bits[s];
     }
 
-    private long write(int s, int i, long v) {
+    long write(int s, int i, long v) {
         if (out(s, 0, 3)) {
             return find(Due.BEYOND);
         }

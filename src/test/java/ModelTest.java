@@ -7,10 +7,13 @@ import java.util.List;
 import java.util.Map;
 import java.util.Random;
 
-/** Random runs of calls, the same for the class and for the model; after each finding all that can be asked is asked. */
+/** Random runs of calls, the same for the class and for the model; after many findings all that can be told is asked. */
 public final class ModelTest {
-    private static final int RUNS = 150;
-    private static final int CALLS = 400;
+    private static final int RUNS = 900;
+    /** The document tells what an object answers for so many calls. */
+    private static final int CALLS_MOST = 512;
+    /** No step of a run takes more calls than a text of 120 bytes and a look at the whole behind it. */
+    private static final int STEP_MOST = 60;
     private static final int[] EDGES = {-1, 0, 1, 15, 16, 99, 100, 101, 999, 1000, 9999, 10000,
         Integer.MIN_VALUE, Integer.MAX_VALUE};
     private static final String[] WORDS = {"person", "singer", "thief", "herd", "choir", "faster", "at", "goes", "meal",
@@ -21,6 +24,7 @@ public final class ModelTest {
 
     private static final Due due = new Due();
     private static final Map<String, Integer> plainAnswers = new HashMap<>();
+    private static int calls = 0;
 
     public static void main(String[] args) throws Exception {
         Method[] face = Arrays.stream(SupperLight.class.getDeclaredMethods())
@@ -45,8 +49,12 @@ public final class ModelTest {
         Random random = new Random(run);
         SupperLight x = new SupperLight();
         Model model = new Model();
-        for (int i = 0; i < CALLS; i++) {
-            boolean builds = random.nextInt(100) < (i < 40 ? 70 : 15);
+        calls = 0;
+        if (run % 30 == 0) {
+            nearTheLastHour(run, x, model);
+        }
+        while (calls + STEP_MOST <= CALLS_MOST) {
+            boolean builds = random.nextInt(100) < (calls < 100 ? 70 : 15);
             String name = builds ? BUILDING.get(random.nextInt(BUILDING.size())) : face[random.nextInt(face.length)].getName();
             if (name.equals("hours") && random.nextInt(3) != 0) {
                 continue;
@@ -59,11 +67,19 @@ public final class ModelTest {
         }
     }
 
+    private static void nearTheLastHour(int run, SupperLight x, Model model) {
+        for (int i = 0; i < 99; i++) {
+            due.is("run " + run + ": hours", x.hours(100), model.call("hours", 100, 0, 0, 0, 0));
+            calls++;
+        }
+    }
+
     private static void both(int run, Random random, Method m, SupperLight x, Model model) throws Exception {
         String name = m.getName();
         int[] a = arguments(name, random);
         if (name.equals("fasted") && random.nextBoolean() && a[1] >= 0 && a[1] < 16) {
             a[2] = x.light(a[1]) + 4 - random.nextInt(9);
+            calls++;
         }
         Class<?>[] types = m.getParameterTypes();
         Object[] given = new Object[types.length];
@@ -75,10 +91,11 @@ public final class ModelTest {
         }
         long got = ((Number) m.invoke(x, given)).longValue();
         long want = model.call(name, a[0], a[1], a[2], a[3], a[4]);
+        calls++;
         due.is("run " + run + ": " + name + Arrays.toString(given), got, want);
         if (want > -1000000000 || name.equals("write")) {
             plainAnswers.merge(name, 1, Integer::sum);
-        } else {
+        } else if (random.nextInt(4) == 0) {
             whole(run, name, x, model);
         }
     }
@@ -86,6 +103,7 @@ public final class ModelTest {
     /** All of the state that calls can tell without a change. */
     private static void whole(int run, String after, SupperLight x, Model model) {
         String where = "run " + run + " after " + after + ": ";
+        calls += 18;
         for (int what = 0; what < 6; what++) {
             due.is(where + "now " + what, x.now(what), model.call("now", what, 0, 0, 0, 0));
         }
@@ -157,9 +175,16 @@ public final class ModelTest {
             text = spoil(text, r);
         }
         due.is("run " + run + ": wipe", x.wipe(), model.call("wipe", 0, 0, 0, 0, 0));
-        for (int i = 0; i < text.length(); i++) {
-            due.is("run " + run + ": feed", x.feed(text.charAt(i), 1), model.call("feed", text.charAt(i), 1, 0, 0, 0));
+        for (int i = 0; i < text.length(); i += 4) {
+            int n = Math.min(4, text.length() - i);
+            int bytes = r.nextInt();
+            for (int k = 0; k < n; k++) {
+                bytes = bytes << 8 | text.charAt(i + k);
+            }
+            due.is("run " + run + ": feed", x.feed(bytes, n), model.call("feed", bytes, n, 0, 0, 0));
+            calls++;
         }
+        calls += 2;
         due.is("run " + run + ": night '" + text + "'", x.night(), model.call("night", 0, 0, 0, 0, 0));
         whole(run, "night '" + text + "'", x, model);
     }

@@ -44,6 +44,7 @@ public final class PromiseTest {
         images();
         count();
         status();
+        longestUse();
         due.end();
     }
 
@@ -747,8 +748,6 @@ public final class PromiseTest {
     }
 
     private static void nightFaults() {
-        SupperLight x = new SupperLight();
-        x.being(0, 0);
         String[] texts = {
             "", "  ", ";", "person", "person at", "person at ", "person at 16", "person 3", "persona at 3",
             "Person at 3", "person at 3;", "person at 3; ", "person at 3;;", "person at 3 person at 4",
@@ -771,18 +770,26 @@ public final class PromiseTest {
             51};
         due.is("34 as many faults", faults.length, texts.length);
         for (int i = 0; i < texts.length; i++) {
-            due.is("34 fault of '" + texts[i] + "'", Due.night(x, texts[i]), -1 - faults[i]);
-            due.is("34 the tape is empty", x.count(2), 0);
+            oneFault(texts[i], faults[i]);
         }
-        due.is("34 tokens of one byte each", Due.night(x, "bowl 1 1" + ";".repeat(112)), -10);
-        due.is("34 tokens of one byte each", Due.night(x, ";".repeat(120)), -1);
-        due.is("34 120 bytes", Due.night(x, "eat 0 20;".repeat(13) + "   "), -121);
+        oneFault("bowl 1 1" + ";".repeat(112), 9);
+        oneFault(";".repeat(120), 0);
+        oneFault("eat 0 20;".repeat(13) + "   ", 120);
+        oneFault("gowl 1 1", 0);
+        oneFault("bowz 1 1", 0);
+        oneFault("bowlz 1 1", 0);
+        oneFault("bowl" + (char) 225 + " 1 1", 4);
+        oneFault("bowl 1 1" + (char) 0, 8);
+        SupperLight x = new SupperLight();
+        x.being(0, 0);
         due.is("34 120 bytes", Due.night(x, "eat 0 20;".repeat(12) + "  eat 0   20"), 13);
-        due.is("34 another first letter", Due.night(x, "gowl 1 1"), -1);
-        due.is("34 another last letter", Due.night(x, "bowz 1 1"), -1);
-        due.is("34 a z behind it", Due.night(x, "bowlz 1 1"), -1);
-        due.is("34 a high byte", Due.night(x, "bowl" + (char) 225 + " 1 1"), -5);
-        due.is("34 a zero byte", Due.night(x, "bowl 1 1" + (char) 0), -9);
+    }
+
+    private static void oneFault(String text, int fault) {
+        SupperLight x = new SupperLight();
+        x.being(0, 0);
+        due.is("34 fault of '" + text + "'", Due.night(x, text), -1 - fault);
+        due.is("34 the tape is empty", x.count(2), 0);
         due.is("34 nothing changes", x.count(0), 1);
         due.is("34 nothing changes", x.count(1), 0);
         due.is("34 nothing changes", x.now(2), 0);
@@ -1060,5 +1067,25 @@ public final class PromiseTest {
         due.is("45 status(-2)", x.status(-2), Due.BEYOND);
         due.is("45 counted from then on", x.status(0), 3);
         due.is("45 counted from then on", x.status(-1), 30);
+    }
+
+    /** All of the 512 calls that an object is for answer as the first ones do. */
+    private static void longestUse() {
+        SupperLight x = new SupperLight();
+        for (int call = 1; call <= 511; call++) {
+            due.is("45 refused call " + call, x.light(16), Due.BEYOND);
+        }
+        due.is("45 the last call", x.status(-1), 511);
+        SupperLight y = new SupperLight();
+        y.image();
+        for (int round = 1; round <= 127; round++) {
+            due.is("42 being", y.being(3, 15), 0);
+            due.is("42 hours", y.hours(100), 0);
+            due.is("42 undo", y.undo(), 0);
+            due.is("42 HOUR", y.now(0), 0);
+        }
+        due.is("42 the last calls", y.being(3, 15), 0);
+        due.is("42 the last calls", y.of(0, 5), 60);
+        due.is("42 the last calls", y.undo(), 0);
     }
 }
