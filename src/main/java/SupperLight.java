@@ -88,7 +88,7 @@ public final class SupperLight {
         keeps = false;
         glow = new Glow();
         tape = new Tape();
-        nightReader = new NightReader(tape, trial);
+        nightReader = new NightReader();
         sheets = new Sheet[SHEETS];
         for (int s = 0; s < SHEETS; s++) {
             sheets[s] = new Sheet();
@@ -439,11 +439,10 @@ public final class SupperLight {
     }
 
     public int night() {
-        trial.becomeAs(world);
-        int items = nightReader.readAll();
+        int items = nightReader.readAll(tape, world);
         tape.size = 0;
         if (items > 0) {
-            world.becomeAs(trial);
+            world.becomeAs(nightReader.draft);
             return items;
         }
         return -1 - nightReader.faultPlace();
@@ -1089,18 +1088,14 @@ public final class SupperLight {
 
     /** Reads the text of a night; no token is passed that can't stand, so a fault is where the next one starts. */
     private static final class NightReader {
-        private final Tape tape;
-        private final World draft;
+        /** What the world would become; with a fault only some of the items came to it. */
+        final World draft = new World();
         private final Tokens text = new Tokens();
         private int next = 0;
 
-        NightReader(Tape tape, World draft) {
-            this.tape = tape;
-            this.draft = draft;
-        }
-
-        /** How many items came to the draft; 0 with a fault. */
-        int readAll() {
+        /** How many items came to a draft of the world; 0 with a fault. */
+        int readAll(Tape tape, World world) {
+            draft.becomeAs(world);
             text.cutOut(tape);
             next = 0;
             for (int items = 1; items <= TAPE_MOST; items++) {

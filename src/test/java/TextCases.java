@@ -1,8 +1,12 @@
+import java.util.Arrays;
+
 /** The text of a night: what the terms tell of it, and promises 32 to 34. */
 final class TextCases {
     private static final int TERMS = Book.TERMS;
     private static final String TEN_BEINGS = "10x being 0 0";
     private static final String EIGHT_TASKS = "8x task 0 0 1";
+    private static final String[] TOKENS = {"person", "singer", "thief", "herd", "choir", "faster", "at", "goes", "meal",
+        "fasts", "bowl", "task", "hour", "need", "eat", "nought", "7", ";", "!"};
 
     static void run(Book book) {
         tape(book);
@@ -204,6 +208,13 @@ final class TextCases {
         book.fault("nought", 0);
         book.fault("bowl nought nought", 5);
         book.fault("  bowl   nought", 9);
+        // Where each token of an item stands: which ones may stand there. The last place is behind the item.
+        String items = "person singer thief herd choir faster bowl task eat";
+        otherTokens(book, "", "herd at 1 goes 2 meal 3 fasts 4", items, "at", "7", "goes meal fasts ;", "7", "meal fasts ;", "7",
+            "fasts ;", "7", ";");
+        otherTokens(book, "", "bowl 1 2", items, "7", "7", ";");
+        otherTokens(book, "", "task at 1 hour 2 need 3", items, "at", "7", "hour", "7", "need", "7", ";");
+        otherTokens(book, "being 0 0", "eat 0 5", items, "7", "7", ";");
         book.says(TERMS, "(a NUMBER that may not be,");
         book.fault("bowl 1 123", 7);
         book.fault("bowl 123 123", 5);
@@ -248,6 +259,23 @@ final class TextCases {
         book.fault("herd at ", 8);
         book.fault("herd at 1;   ", 13);
         book.fault("bowl 1   ", 9);
+    }
+
+    /** Puts each token that may not stand there in the place of each token of an item, and behind it. */
+    private static void otherTokens(Book book, String before, String item, String... may) {
+        String[] tokens = item.split(" ");
+        for (int i = 0; i < may.length; i++) {
+            String ahead = String.join(" ", Arrays.copyOf(tokens, i)) + (i == 0 ? "" : " ");
+            String behind = i + 1 < tokens.length ? " " + String.join(" ", Arrays.copyOfRange(tokens, i + 1, tokens.length)) : "";
+            for (String token : TOKENS) {
+                if (!Arrays.asList(may[i].split(" ")).contains(token)) {
+                    book.fault(before, ahead + token + behind, ahead.length());
+                }
+            }
+            if (!may[i].contains(";")) {
+                book.fault(before, ahead, ahead.length());
+            }
+        }
     }
 
     private static void feed(Book book) {
