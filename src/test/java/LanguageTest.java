@@ -7,7 +7,9 @@ import java.nio.file.Path;
 import java.util.ArrayList;
 import java.util.Arrays;
 import java.util.List;
+import java.util.Map;
 import java.util.Set;
+import java.util.TreeMap;
 import java.util.TreeSet;
 import java.util.regex.Matcher;
 import java.util.regex.Pattern;
@@ -18,9 +20,11 @@ public final class LanguageTest {
 
     public static void main(String[] args) throws Exception {
         face();
+        headings();
         members();
         words();
         lengths();
+        depths();
         callsMakeNothing();
         due.end();
     }
@@ -51,6 +55,26 @@ public final class LanguageTest {
         due.is("its parameters", makers[0].getParameterCount(), 0);
         due.is("it is public", makers[0].getModifiers(), Modifier.PUBLIC);
         due.is("the class", SupperLight.class.getModifiers(), Modifier.PUBLIC | Modifier.FINAL);
+    }
+
+    /** Ahead of the calls stands what the document's interface says there, and they come in its order. */
+    private static void headings() throws Exception {
+        StringBuilder told = new StringBuilder();
+        Matcher m = Pattern.compile("Ahead of the calls (.*?) the interface says: (---- .*)\\.")
+            .matcher(Files.readString(Path.of("../shared/DOC.md")));
+        int headings = 0;
+        while (m.find()) {
+            told.append(m.group(2)).append(": ").append(m.group(1).replace("`", "").replace(",", "")).append('\n');
+            headings++;
+        }
+        due.is("headings that the document tells", headings, 9);
+        StringBuilder had = new StringBuilder();
+        m = Pattern.compile("(?m)^    (?:public (?:int|long) (\\w+)\\(|// (---- .*)$)").matcher(source());
+        while (m.find()) {
+            String heading = m.group(2);
+            had.append(heading == null ? " " + m.group(1) : (had.length() > 0 ? "\n" : "") + heading + ":");
+        }
+        due.same("headings and calls", had.toString(), told + "---- what the calls share:");
     }
 
     private static String signature(Method method) {
@@ -96,8 +120,13 @@ public final class LanguageTest {
         return Files.readString(Path.of("src/main/java/SupperLight.java"));
     }
 
+    /** Without what stands in comments. */
+    private static String plainSource() throws Exception {
+        return source().replaceAll("(?s)/\\*.*?\\*/", " ").replaceAll("//[^\n]*", " ");
+    }
+
     private static void words() throws Exception {
-        String code = source().replaceAll("(?s)/\\*.*?\\*/", " ").replaceAll("//[^\n]*", " ");
+        String code = plainSource();
         String[] barred = {"throw", "throws", "try", "catch", "finally", "synchronized", "assert", "package", "Object",
             "double", "float", "var", "Random", "Thread", "nanoTime", "currentTimeMillis", "native", "volatile",
             "hashCode", "toString", "goto", "protected", "Exception", "Error"};
@@ -120,19 +149,55 @@ public final class LanguageTest {
     }
 
     private static void lengths() throws Exception {
-        String[] lines = source().split("\n");
-        int start = -1;
-        for (int i = 0; i < lines.length; i++) {
-            if (lines[i].matches(" +(public |private |static )*\\w+(\\[\\])? \\w+\\(.*\\) \\{") && !lines[i].contains(" new ")
-                && !lines[i].matches(" +(if|for|while|switch|else|return) .*")) {
-                start = i;
-            }
-            if (start >= 0 && lines[i].equals(lines[start].replaceAll("\\S.*", "}"))) {
-                due.is(lines[start].trim() + " is short", i - start < 60 ? 1 : 0, 1);
-                start = -1;
-            }
-            due.is("line " + (i + 1) + " is short", lines[i].length() <= 120 ? 1 : 0, 1);
+        for (String line : source().split("\n")) {
+            due.is("a short line: " + line, line.length() <= 120 ? 1 : 0, 1);
         }
+        int seen = 0;
+        for (String body : methods().values()) {
+            due.is(body.lines().findFirst().orElse("").trim() + " is short", body.lines().count() <= 60 ? 1 : 0, 1);
+            seen++;
+        }
+        int had = 0;
+        for (Class<?> c : SupperLight.class.getDeclaredClasses()) {
+            had += c.getDeclaredMethods().length;
+        }
+        due.is("methods found in the source", seen, had + SupperLight.class.getDeclaredMethods().length);
+    }
+
+    /** The text of each method by its name; no two of them have one name, so that a name tells what is called. */
+    private static Map<String, String> methods() throws Exception {
+        Map<String, String> found = new TreeMap<>();
+        Matcher m = Pattern.compile("(?ms)^( +)(?:public |private |static )*\\w+(?:\\[\\])? (?!SupperLight)(\\w+)\\([^()]*\\) \\{\n.*?^\\1\\}")
+            .matcher(plainSource());
+        while (m.find()) {
+            due.is(m.group(2) + " is one method's name", found.containsKey(m.group(2)) ? 1 : 0, 0);
+            found.put(m.group(2), m.group());
+        }
+        return found;
+    }
+
+    /** Rule 11: calls go at most eight deep, the library's counted; there is no recursion. */
+    private static void depths() throws Exception {
+        Map<String, String> methods = methods();
+        for (Method method : SupperLight.class.getDeclaredMethods()) {
+            if (Modifier.isPublic(method.getModifiers())) {
+                due.is(method.getName() + " goes at most eight deep", depthOf(method.getName(), methods, 1) <= 8 ? 1 : 0, 1);
+            }
+        }
+    }
+
+    /** How deep calls stand open at most within a method that stands at a depth itself; 99 where there is recursion. */
+    private static int depthOf(String name, Map<String, String> methods, int depth) {
+        if (depth > 30) {
+            return 99;
+        }
+        int deepest = depth;
+        String body = methods.getOrDefault(name, "");
+        Matcher call = Pattern.compile("(?<!new )\\b(\\w+)\\(").matcher(body.substring(body.indexOf('{') + 1));
+        while (call.find()) {
+            deepest = Math.max(deepest, depthOf(call.group(1), methods, depth + 1));
+        }
+        return deepest;
     }
 
     /** Rows are made in the constructor: calls make no objects, so all calls of a run fit into one room. */
